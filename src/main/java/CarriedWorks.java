@@ -116,7 +116,6 @@ public final class CarriedWorks {
         OldText before = p.oldText;
         p.oldText = reader.oldText;
         reader.oldText = before;
-        p.told = NONE;
         return p.oldText.size;
     }
 
@@ -1067,7 +1066,6 @@ public final class CarriedWorks {
         private final Sums sums = new Sums();
 
         void clear() {
-            there = false;
             size = 0;
             sums.clear();
         }
@@ -1118,7 +1116,6 @@ public final class CarriedWorks {
         private final Sums sums = new Sums();
 
         void clear() {
-            there = false;
             size = 0;
             sums.clear();
         }
@@ -1141,7 +1138,6 @@ public final class CarriedWorks {
             testCounts[size] = 0;
             putCounts[size] = 0;
             firstTests[size] = sums.used;
-            firstPuts[size] = sums.used;
             size++;
         }
 
@@ -1249,10 +1245,6 @@ public final class CarriedWorks {
             return stage == STAGE_BESIDE || stage == STAGE_BACK && newText.size > 0;
         }
 
-        boolean isOver() {
-            return stage == STAGE_LIVE || stage == STAGE_RETIRED;
-        }
-
         boolean hasBoth() {
             return oldText.there && newText.there;
         }
@@ -1339,7 +1331,6 @@ public final class CarriedWorks {
             int line = 0;
             while (stop == STILL_RUNS && line < text.size && acts < ACTS_MOST) {
                 trace[acts] = (byte) line;
-                held[acts] = false;
                 mark = mark * 31 + line + 1;
                 acts++;
                 line = doLine(text, line);

@@ -241,6 +241,10 @@ public final class CutOverTest {
         c.due("7 calls it", x.retire(2), -5);
         x.calls(7, 2, -1);
         c.due("no more", x.retire(2), 0);
+        CarriedWorks y = new CarriedWorks();
+        goLive(y, 7);
+        y.calls(0, 7, 1);
+        c.due("0 calls it", y.retire(7), -5);
         for (int wrong : WRONG) {
             c.due("no PROGRAM", x.retire(wrong), -2);
         }

@@ -8,6 +8,7 @@ public final class ImageTest {
         keepsNotTheRest();
         threeImages();
         apart();
+        textsAndSpans();
         madeCases();
         wrong();
         c.close();
@@ -209,6 +210,36 @@ public final class ImageTest {
         c.due("no NIGHT then", x.live(0), -5);
         x.restore(1);
         c.due("one then", x.live(0), 0);
+    }
+
+    private static void textsAndSpans() {
+        CarriedWorks x = new CarriedWorks();
+        Check.old(x, 0, "11:if d<2 go 33;22:go 5;33:set b=3*d+1;44:if b>1 go 66;55:stop;66:set h=2;");
+        x.span(0, 3, 0, 2);
+        x.span(0, 6, 7, 8);
+        x.keep(0);
+        Check.old(x, 0, "1:set c=9;2:set g=a-f;3:set h=1;4:set c=3*c-g;5:if h=0 go 1;6:go 2;");
+        x.span(0, 3, 1, 0);
+        x.span(0, 0, 5, 6);
+        x.span(0, 5, 1, 9);
+        c.due("restore", x.restore(0), 0);
+        c.due("ways", x.ways(0), 3);
+        int[][] lines = {{11, 33, 44, 55}, {11, 33, 44, 66}, {11, 22}};
+        for (int w = 0; w < 3; w++) {
+            c.due("INPUTS", x.way(w, 0, 0), 2);
+            c.due("LINES", x.way(w, 3, 0), lines[w].length);
+            for (int i = 0; i < lines[w].length; i++) {
+                c.due("LINE", x.way(w, 4, i), lines[w][i]);
+            }
+        }
+        c.due("STOPS 3", x.way(2, 2, 0), 3);
+        c.due("times d", x.rule(0, 1, 0), 3);
+        c.due("run", x.run(0, 3), 0);
+        c.due("d", x.field(3), 1);
+        c.due("g", x.field(6), 8);
+        c.due("b", x.field(1), 4);
+        c.due("h", x.field(7), 2);
+        c.due("a", x.field(0), 0);
     }
 
     private static void madeCases() {

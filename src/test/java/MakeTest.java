@@ -262,6 +262,9 @@ public final class MakeTest {
         c.due("none behind", x.parts(0, 3), -1);
         Check.renew(x, 0, "when a=2{b=9999+1;}else{b=a;}");
         c.due("another STOP", x.where(0, 2), 256 | 2);
+        Check.renew(x, 0, "when a=0{b=1;}when a=2{b=2;h=0*h;}else{b=a;}");
+        c.due("0 and 2", x.unlike(0), 2);
+        c.due("none behind the last INPUT", x.parts(0, 3), -1);
         // both STOP 2
         Check.old(x, 1, "1:set a=9999+1;");
         Check.renew(x, 1, "else{b=-9999-1;}");

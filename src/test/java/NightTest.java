@@ -10,6 +10,8 @@ public final class NightTest {
         sixty();
         wrongNights();
         refusedNightDoesNothing();
+        fullRows();
+        newHeapBehindAnImage();
         wrongHeaps();
         c.close();
     }
@@ -186,6 +188,33 @@ public final class NightTest {
         c.due("all alike", x.night(0, 1), 0);
         c.due("refused", x.night(0, 0), -7);
         c.due("the latest told 0 still", x.live(0), 0);
+    }
+
+    private static void fullRows() {
+        CarriedWorks x = new CarriedWorks();
+        x.old(0);
+        x.renew(0);
+        for (int slot = 0; slot < 4; slot++) {
+            x.sheet(slot, 2, 60);
+        }
+        c.due("60", x.night(0, 3), 60);
+        x.write(1, 0, 5);
+        c.due("not of the next SLOT", x.night(0, 0), 60);
+        c.due("of this one", x.night(0, 1), -7);
+    }
+
+    private static void newHeapBehindAnImage() {
+        CarriedWorks x = new CarriedWorks();
+        x.old(0);
+        x.renew(0);
+        Check.sheet(x, 0, 0);
+        x.keep(0);
+        x.night(0, 0);
+        x.judge(0, 2);
+        x.restore(0);
+        c.due("none", x.heaps(), 0);
+        c.due("a new one", x.night(0, 0), 1);
+        heapIs(x, 0, 0, -1, -1, 256, 1, 0, 0);
     }
 
     private static void wrongHeaps() {

@@ -53,6 +53,7 @@ public final class SlotsTest {
             c.due("no SLOT, below 0", x.sheet(wrong, 0, -1), -2);
             c.due("no WIDTH, below 0", x.sheet(0, wrong, -1), -2);
         }
+        x.write(0, 0, 1);
         c.due("in place of another one", x.sheet(0, 1, 60), 0);
         c.due("all 0", x.night(0, 0), 0);
         c.due("shorter", x.sheet(0, 1, 2), 0);

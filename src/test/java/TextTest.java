@@ -6,6 +6,9 @@ public final class TextTest {
         goodOld();
         goodNew();
         oldFaults();
+        behindTheEnd();
+        fullTape();
+        likeWords();
         tooManyOfOld();
         newFaults();
         tooManyOfNew();
@@ -133,6 +136,56 @@ public final class TextTest {
         oldFaults("10000 ?", 2, 0);
         oldFaults("1:set a=10000 ?", 2, 8);
         oldFaults("1:? 10000:", 1, 2);
+    }
+
+    /** What stood behind the TAPE's end is no part of the text. */
+    private static void behindTheEnd() {
+        CarriedWorks x = new CarriedWorks();
+        Check.tape(x, "1:stop;2:go 123;3:stop;");
+        x.end(13);
+        c.due("a FAULT", x.old(0), -4);
+        c.due("the end", x.fault(1), 13);
+        Check.tape(x, "1:stop;2:stopper;");
+        x.end(13);
+        c.due("a FAULT", x.old(0), -4);
+        c.due("the end", x.fault(1), 13);
+        Check.tape(x, "1:stop;2:sto");
+        x.end(11);
+        c.due("a FAULT", x.old(0), -4);
+        c.due("a word that is none", x.fault(1), 9);
+    }
+
+    private static void fullTape() {
+        oldFaults(";".repeat(600), 1, 0);
+        newFaults("{".repeat(600), 1, 0);
+        oldFaults(" ".repeat(599) + "1", 1, 600);
+        oldFaults("1:" + " ".repeat(594) + "stop", 1, 600);
+        oldIs("1:" + " ".repeat(593) + "stop;", 1);
+        newFaults(" ".repeat(596) + "else", 1, 600);
+        oldFaults("0".repeat(600), 2, 0);
+        oldFaults("0".repeat(599) + "1", 1, 600);
+        oldFaults("a".repeat(600), 1, 0);
+        newIs("when 1=1{}".repeat(12) + " ".repeat(480), 12);
+    }
+
+    private static void likeWords() {
+        for (String word : new String[] {"xtop", "stxp", "stoz", "stopz", "zstop", "sto", "pet a=1", "if", "of a<1 go 1", "bo 1", "gz 1",
+                "sez a=1", "z", "a", "else", "when", "and"}) {
+            oldFaults("1:" + word + ";", 1, word.equals("if") ? 4 : 2);
+        }
+        for (String word : new String[] {"xlse{}", "elsz{}", "ehen a<1{}", "whez a<1{}", "and", "set", "stop", "elsez{}"}) {
+            newFaults(word, 1, 0);
+        }
+        newFaults("when a<1 ant b<1{}", 1, 9);
+        newFaults("when a<1 bnd b<1{}", 1, 9);
+        oldFaults("1:set az=1;", 1, 6);
+        oldFaults("1:set z=1;", 1, 6);
+        oldFaults("1:if a<1 gz 1;", 1, 9);
+        for (char sign : new char[] {0, 1, 9, 13, 31, '!', '/', '?', '@', 'A', 'Z', '[', '`', '|', '~', 127, 128, 160, 255}) {
+            oldFaults("1:stop;" + sign, 1, 7);
+            newFaults("else{}" + sign, 1, 6);
+            oldFaults("1:sto" + sign + "p;", 1, 2);
+        }
     }
 
     private static void tooManyOfOld() {

@@ -172,6 +172,12 @@ public final class WaysTest {
         Check.old(x, 0, "1:if a=0 go 4;2:stop;4:go 9;");
         x.ways(0);
         c.due("STOPS are others", x.kinds(), 2);
+        Check.old(x, 0, "1:if a=0 go 4;2:stop;4:set a=2*a;");
+        x.ways(0);
+        c.due("the first COEFFICIENT of the first FIELD", x.kinds(), 2);
+        Check.old(x, 0, "1:if a=0 go 4;2:stop;4:set h=1;");
+        x.ways(0);
+        c.due("the last of the last FIELD", x.kinds(), 2);
     }
 
     private static void tooMany() {
