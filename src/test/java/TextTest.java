@@ -158,6 +158,8 @@ public final class TextTest {
     private static void fullTape() {
         oldFaults(";".repeat(600), 1, 0);
         newFaults("{".repeat(600), 1, 0);
+        oldFaults(";".repeat(599) + "1", 1, 0);
+        newFaults(";".repeat(599) + "h", 1, 0);
         oldFaults(" ".repeat(599) + "1", 1, 600);
         oldFaults("1:" + " ".repeat(594) + "stop", 1, 600);
         oldIs("1:" + " ".repeat(593) + "stop;", 1);
