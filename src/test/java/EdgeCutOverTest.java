@@ -25,6 +25,7 @@ public final class EdgeCutOverTest {
         planPrices();
         planFirstByPrograms();
         planMost();
+        planOfAllOrders();
         plannedEdges();
         c.close();
     }
@@ -499,6 +500,66 @@ public final class EdgeCutOverTest {
         }
         c.due("all calls by 999", x.plan(255), price);
         orderIs(x, 0, 1, 2, 3, 4, 5, 6, 7);
+    }
+
+    /** The PLAN beside all orders of the PROGRAMS, tried one by one. */
+    private static void planOfAllOrders() {
+        for (int seed = 1; seed <= 60; seed++) {
+            java.util.Random random = new java.util.Random(seed);
+            CarriedWorks x = new CarriedWorks();
+            int[][] prices = new int[8][8];
+            int[] needed = new int[8];
+            for (int i = 0; i < 14; i++) {
+                int p = random.nextInt(8);
+                int q = random.nextInt(8);
+                int price = random.nextInt(seed % 3 == 0 ? 3 : 1000);
+                if (p != q) {
+                    x.calls(p, q, price);
+                    prices[p][q] = price;
+                }
+                if (i % 3 == 0 && x.needs(p, q) == 0) {
+                    needed[p] |= 1 << q;
+                }
+            }
+            int bits = seed % 4 == 0 ? 255 : random.nextInt(256);
+            int[] best = {-1, 0, 0, 0, 0, 0, 0, 0, 0};
+            tryAll(prices, needed, bits, 0, 0, new int[8], best);
+            c.due("plan " + seed, x.plan(bits), best[0]);
+            for (int i = 0; best[0] >= 0 && i < Integer.bitCount(bits); i++) {
+                c.due("planned", x.planned(i), best[i + 1]);
+            }
+        }
+    }
+
+    /** Orders are tried by PROGRAMS, so that the first of the least sum is found first. */
+    private static void tryAll(int[][] prices, int[] needed, int bits, int done, int sum, int[] order, int[] best) {
+        int at = Integer.bitCount(done);
+        if (done == bits) {
+            if (best[0] < 0 || sum < best[0]) {
+                best[0] = sum;
+                System.arraycopy(order, 0, best, 1, at);
+            }
+            return;
+        }
+        for (int p = 0; p < 8; p++) {
+            if ((bits & ~done & 1 << p) != 0 && (needed[p] & ~done) == 0) {
+                order[at] = p;
+                int then = done | 1 << p;
+                tryAll(prices, needed, bits, then, sum + priceOf(prices, then), order, best);
+            }
+        }
+    }
+
+    private static int priceOf(int[][] prices, int over) {
+        int price = 0;
+        for (int p = 0; p < 8; p++) {
+            for (int q = 0; q < 8; q++) {
+                if ((over >> p & 1) != (over >> q & 1)) {
+                    price += prices[p][q];
+                }
+            }
+        }
+        return price;
     }
 
     /** Promise 34. */

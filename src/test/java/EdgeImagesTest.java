@@ -12,6 +12,8 @@ public final class EdgeImagesTest {
         keptOverAnother();
         imageOfANewObject();
         fullTexts();
+        everyActAndSpan();
+        noneToThreeSpans();
         tapeAndSlotsStay();
         foundStays();
         everyPartComesBack();
@@ -193,6 +195,74 @@ public final class EdgeImagesTest {
             for (int p = 0; p < 8; p++) {
                 c.due("alike at all", x.unlike(p), 0);
             }
+        }
+    }
+
+    /** Each part of an OLD text and of SPANS: another text of as many LINES in between leaves nothing. */
+    private static void everyActAndSpan() {
+        CarriedWorks x = new CarriedWorks();
+        Check.old(x, 0, "11:if d<2 go 33;22:go 5;33:set b=3*d+1;44:if b>1 go 66;55:stop;66:set h=2;");
+        x.span(0, 3, 0, 2);
+        x.span(0, 6, 7, 8);
+        x.keep(0);
+        Check.old(x, 0, "1:set c=9;2:set g=a-f;3:set h=1;4:set c=3*c-g;5:if h=0 go 1;6:go 2;");
+        x.span(0, 3, 1, 0);
+        x.span(0, 6, 1, 0);
+        x.span(0, 0, 5, 6);
+        x.span(0, 5, 1, 9);
+        x.keep(1);
+        x.restore(0);
+        textOfImageZero(x);
+        x.restore(1);
+        c.due("ways", x.ways(0), 1);
+        c.due("INPUTS", x.way(0, 0, 0), 18);
+        c.due("LINES: one, six rounds of five, and three", x.way(0, 3, 0), 34);
+        c.due("STOPS 2: c grows by three times", x.way(0, 2, 0), 2);
+        x.restore(0);
+        textOfImageZero(x);
+    }
+
+    private static void textOfImageZero(CarriedWorks x) {
+        c.due("ways", x.ways(0), 3);
+        int[][] lines = {{11, 33, 44, 55}, {11, 33, 44, 66}, {11, 22}};
+        int[] stops = {0, 0, 3};
+        for (int w = 0; w < 3; w++) {
+            c.due("INPUTS", x.way(w, 0, 0), 2);
+            c.due("STOPS", x.way(w, 2, 0), stops[w]);
+            c.due("LINES", x.way(w, 3, 0), lines[w].length);
+            for (int i = 0; i < lines[w].length; i++) {
+                c.due("LINE", x.way(w, 4, i), lines[w][i]);
+            }
+        }
+        c.due("times d", x.rule(0, 1, 0), 3);
+        c.due("run", x.run(0, 3), 0);
+        int[] fields = {0, 4, 0, 1, 0, 0, 8, 2};
+        for (int f = 0; f < 8; f++) {
+            c.due("FIELD " + f, x.field(f), fields[f]);
+        }
+        c.due("6 INPUTS", x.run(0, 6), -2);
+    }
+
+    /** IMAGES of none to two SPANS, gone back to from others. */
+    private static void noneToThreeSpans() {
+        CarriedWorks x = new CarriedWorks();
+        Check.old(x, 0, "1:set h=a+2*c+3*e;");
+        int[] fields = {4, 2, 0};
+        for (int k = 0; k < 3; k++) {
+            x.keep(k);
+            c.due("INPUTS", x.span(0, fields[k], 1, 2), 2 << k);
+        }
+        for (int k : new int[] {2, 0, 1, 0, 2, 1}) {
+            x.restore(k);
+            c.due("ways", x.ways(0), 1);
+            c.due("INPUTS", x.way(0, 0, 0), 1 << k);
+            c.due("so many FIELDS with a SPAN", x.rule(0, 7, k), -2000000000);
+            c.due("the last INPUT", x.run(0, (1 << k) - 1), 0);
+            c.due("a", x.field(0), 0);
+            c.due("c", x.field(2), k > 1 ? 2 : 0);
+            c.due("e", x.field(4), k > 0 ? 2 : 0);
+            c.due("no more", x.run(0, 1 << k), -2);
+            c.due("a SPAN more", x.span(0, 6, 0, 2), 3 << k);
         }
     }
 

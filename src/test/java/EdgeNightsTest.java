@@ -7,6 +7,7 @@ public final class EdgeNightsTest {
         noInputAtAnyPlace();
         numbersOfAWidth();
         rowsOfNoneAndOfSixty();
+        noNumberOfTheNextSlot();
         slotsAndPrograms();
         orderOfRefusals();
         aHeapOfItsOwn();
@@ -105,6 +106,23 @@ public final class EdgeNightsTest {
         c.due("the last", x.night(0, 1), 60);
         c.due("120 INPUTS heaped", x.heap(0, 4), 120);
         c.due("all three NIGHTS", x.count(6), 3);
+    }
+
+    /** Full rows: the numbers of one SLOT alone are the NIGHT's. */
+    private static void noNumberOfTheNextSlot() {
+        CarriedWorks x = unlikeAtAll(2, 1);
+        for (int slot = 0; slot < 4; slot++) {
+            x.sheet(slot, 2, 60);
+        }
+        x.write(1, 0, 2);
+        x.write(1, 59, 2);
+        c.due("SLOT 0", x.night(0, 0), 60);
+        c.due("SLOT 1", x.night(0, 1), -7);
+        c.due("SLOT 2", x.night(0, 2), 60);
+        c.due("SLOT 3", x.night(0, 3), 60);
+        x.sheet(1, 2, 59);
+        x.write(1, 58, 1);
+        c.due("59 of SLOT 1", x.night(0, 1), 59);
     }
 
     private static void slotsAndPrograms() {

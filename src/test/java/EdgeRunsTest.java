@@ -10,6 +10,7 @@ public final class EdgeRunsTest {
         spanStates();
         firstAndLastInput();
         lastGoesFastest();
+        everyFieldOfASum();
         setRange();
         sumsBeyond();
         goesToNoLine();
@@ -198,6 +199,32 @@ public final class EdgeRunsTest {
         c.due("ACTS of " + text, x.did(), acts);
         c.due("a of " + text, x.field(0), a);
         c.due("b of " + text, x.field(1), b);
+    }
+
+    /** Each FIELD in a set, an if, a TEST and a PUT is that FIELD and no other. */
+    private static void everyFieldOfASum() {
+        for (int f = 0; f < 8; f++) {
+            char from = (char) ('a' + f);
+            for (int g = 0; g < 8; g++) {
+                char to = (char) ('a' + g);
+                CarriedWorks x = new CarriedWorks();
+                x.span(0, f, 5, 6);
+                Check.old(x, 0, "1:if " + from + "=6 go 3;2:set " + to + "=3*" + from + "+1;3:stop;");
+                Check.renew(x, 0, "when 2*" + from + "+1<13{" + to + "=1+3*" + from + ";}else{}");
+                c.due("alike", x.unlike(0), 0);
+                c.due("run", x.run(0, 0), 0);
+                for (int h = 0; h < 8; h++) {
+                    c.due("FIELD " + h, x.field(h), h == g ? 16 : h == f ? 5 : 0);
+                }
+                c.due("runNew", x.runNew(0, 1), 0);
+                c.due("the second CASE", x.did(), 1);
+                c.due("it stays", x.field(f), 6);
+                c.due("times", x.casing(0, 0, 2, 0, f), 3);
+                c.due("its FIELD", x.casing(0, 0, 4, 0, 0), g);
+                x.ways(0);
+                c.due("times", x.rule(0, g, 0), 3);
+            }
+        }
     }
 
     /** 2 at a set whose SUM is not -9999 .. 9999 (the FIELD stays). */

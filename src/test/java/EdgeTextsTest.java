@@ -13,6 +13,10 @@ public final class EdgeTextsTest {
         emptyTexts();
         blanks();
         longestTokens();
+        wordsByEachLetter();
+        sixHundredTokens();
+        behindTheEnd();
+        nothingOfTheTextAhead();
         signsBesideLetters();
         twentyFourLines();
         lineNumbers();
@@ -204,6 +208,107 @@ public final class EdgeTextsTest {
         newFault("when a<1and b<1{aa=1;}", 1, 16);
     }
 
+    /** A word with another letter at any place, or one more, is another word. */
+    private static void wordsByEachLetter() {
+        String[] olds = {"1:stop;", "1:set a=1;", "1:if a<1 go 1;", "1:go 1;"};
+        for (String text : olds) {
+            old(text, 1);
+            int past = text.startsWith("1:stop") ? 6 : text.startsWith("1:set") ? 5 : 4;
+            for (int at = 2; at < past; at++) {
+                for (char letter : new char[] {'a', 'q', 'z'}) {
+                    oldFault(text.substring(0, at) + letter + text.substring(at + 1), 1, 2);
+                }
+            }
+            for (char letter = 'a'; letter <= 'z'; letter++) {
+                oldFault(text.substring(0, past) + letter + text.substring(past), 1, 2);
+                oldFault("1:" + letter + text.substring(2), 1, 2);
+            }
+        }
+        for (String word : new String[] {"when", "else"}) {
+            for (int at = 0; at < 4; at++) {
+                for (char letter : new char[] {'a', 'q', 'z'}) {
+                    newFault(word.substring(0, at) + letter + word.substring(at + 1) + " 1=1{}", 1, 0);
+                }
+            }
+            for (char letter = 'a'; letter <= 'z'; letter++) {
+                newFault(word + letter, 1, 0);
+                newFault(letter + word, 1, 0);
+            }
+        }
+        for (String word : new String[] {"qnd", "aqd", "anq", "zand", "andz", "an", "nd"}) {
+            newFault("when a<1 " + word + " b<1{}", 1, 9);
+        }
+        for (String word : new String[] {"qo", "gq", "zgo", "goz", "g", "o"}) {
+            oldFault("1:if a<1 " + word + " 1;", 1, 9);
+        }
+    }
+
+    /** A TOKEN at each of the 600 bytes. */
+    private static void sixHundredTokens() {
+        for (String sign : new String[] {";", "{", ":", "*", "?"}) {
+            oldFault(sign.repeat(600), 1, 0);
+            newFault(sign.repeat(600), 1, 0);
+            oldFault(sign.repeat(599) + "7", 1, 0);
+            newFault(sign.repeat(599) + "h", 1, 0);
+        }
+        String line = "1:set a=-1-a;";
+        old(" ".repeat(600 - line.length()) + line, 1);
+        oldFault(" ".repeat(600 - line.length() + 1) + line.substring(0, line.length() - 1), 1, 600);
+        String one = "else{a=-1;}";
+        renew(" ".repeat(600 - one.length()) + one, 1);
+        newFault(" ".repeat(600 - one.length() + 1) + one.substring(0, one.length() - 1), 1, 600);
+    }
+
+    /** What stood behind the TAPE's end once is no part of a number or word that ends there. */
+    private static void behindTheEnd() {
+        CarriedWorks x = new CarriedWorks();
+        Check.tape(x, "1:go 12345;");
+        x.end(9);
+        c.due("a FAULT", x.old(0), -4);
+        c.due("1234 is well, but no ;", x.fault(0), 1);
+        c.due("the end", x.fault(1), 9);
+        Check.tape(x, "1:stopp;");
+        x.end(6);
+        c.due("a FAULT", x.old(0), -4);
+        c.due("stop is well, but no ;", x.fault(1), 6);
+        Check.tape(x, "1:stop;5");
+        x.end(7);
+        c.due("one LINE", x.old(0), 1);
+        Check.tape(x, "elsee");
+        x.end(4);
+        c.due("a FAULT", x.renew(0), -4);
+        c.due("else is well, but no {", x.fault(1), 4);
+    }
+
+    /** One text behind another, each LINE and CASE of another kind: nothing of those ahead is left. */
+    private static void nothingOfTheTextAhead() {
+        CarriedWorks x = new CarriedWorks();
+        String[] olds = {"1:set a=5;2:set a=a+1;", "1:if a=0 go 2;2:stop;", "1:go 2;2:set a=7;", "1:stop;2:stop;", "1:go 3;2:set a=1;", ""};
+        int[] stops = {0, 0, 0, 0, 3, 0};
+        int[] acts = {2, 2, 2, 1, 1, 0};
+        int[] fields = {6, 0, 7, 0, 0, 0};
+        for (int i = 0; i < 36; i++) {
+            int which = (i % 6 * (i / 6 + 1) + i / 6) % 6;
+            Check.old(x, 0, olds[which]);
+            c.due("STOPS", x.run(0, 0), stops[which]);
+            c.due("ACTS", x.did(), acts[which]);
+            c.due("a", x.field(0), fields[which]);
+        }
+        CarriedWorks y = new CarriedWorks();
+        String[] news = {"when a=0{b=1;c=2;}when a=1{b=3;}else{b=4;}", "else{}", "when a=1{b=5;}", "", "when a=0 and b=0 and c=0 and d=0{c=6;}"};
+        int[] sizes = {3, 1, 1, 0, 1};
+        for (int i = 0; i < 25; i++) {
+            int which = (i % 5 * (i / 5 + 1) + i / 5) % 5;
+            c.due("CASES", Check.renew(y, 0, news[which]), sizes[which]);
+            c.due("STOPS", y.runNew(0, 0), which == 2 || which == 3 ? 5 : 0);
+            c.due("b", y.field(1), which == 0 ? 1 : 0);
+            c.due("c", y.field(2), which == 0 ? 2 : which == 4 ? 6 : 0);
+            c.due("no CASE behind the last", y.wish(0, sizes[which], 1, 1), -2);
+            c.due("no CASE behind the last", y.casing(0, sizes[which], 1, 0, 0), -2000000000);
+        }
+        c.due("no WISH was told", y.count(7), 0);
+    }
+
     /** The bytes next to a .. z, 0 .. 9 and the signs. */
     private static void signsBesideLetters() {
         for (int sign = 0; sign < 256; sign++) {
@@ -318,7 +423,7 @@ public final class EdgeTextsTest {
             int place = text.indexOf('#');
             old(text.replace("#", "a"), 1);
             old(text.replace("#", "h"), 1);
-            for (String other : new String[] {"i", "z", "A", "ab", "ha", "set", "if", "?", ":"}) {
+            for (String other : new String[] {"i", "z", "A", "ab", "ha", "set", "if", "?", ":", ""}) {
                 oldFault(text.replace("#", other), 1, place);
             }
         }
@@ -328,7 +433,7 @@ public final class EdgeTextsTest {
             int place = text.indexOf('#');
             renew(text.replace("#", "a"), 1);
             renew(text.replace("#", "h"), 1);
-            for (String other : new String[] {"i", "z", "H", "ab", "else", "?"}) {
+            for (String other : new String[] {"i", "z", "H", "ab", "else", "?", ""}) {
                 newFault(text.replace("#", other), 1, place);
             }
         }
