@@ -149,8 +149,8 @@ public final class EdgeSlotsTest {
     private static void cutToItsWidth() {
         long[] values = {0, 127, 128, 255, 256, 257, 32767, 32768, 65535, 65536, 65537, 1L << 31, (1L << 31) - 1, (1L << 32) - 1, 1L << 32,
             (1L << 32) + 1, -1, -128, -129, -256, -65536, -(1L << 32), Long.MAX_VALUE, Long.MIN_VALUE, Long.MIN_VALUE + 5};
-        CarriedWorks x = reader();
         for (long v : values) {
+            CarriedWorks x = reader();
             long[] cut = {(byte) v, (short) v, (int) v, v};
             for (int width = 0; width < 4; width++) {
                 x.sheet(0, width, 1);

@@ -109,10 +109,11 @@ public final class EdgeTextsTest {
         c.due("a FAULT", x.old(0), -4);
         c.due("the last byte of 600", x.fault(1), 599);
         for (int free = 0; free < 20; free++) {
-            Check.tape(x, " ".repeat(600 - free));
-            c.due("free: " + free, x.feed(0x3b3b3b3b, 0, 0, 0, 0), -1);
-            c.due("none came", x.count(5), 600 - free);
-            c.due("none of these bytes", x.old(0), 0);
+            CarriedWorks y = new CarriedWorks();
+            Check.tape(y, " ".repeat(600 - free));
+            c.due("free: " + free, y.feed(0x3b3b3b3b, 0, 0, 0, 0), -1);
+            c.due("none came", y.count(5), 600 - free);
+            c.due("none of these bytes", y.old(0), 0);
         }
         Check.tape(x, " ".repeat(580));
         c.due("20 are free", x.feed(0x3b3b3b3b, 0, 0, 0, 0), 600);

@@ -48,15 +48,16 @@ public final class EdgeWaysTest {
 
     private static void twoHundred() {
         for (int[] size : new int[][] {{1, 1}, {1, 100}, {2, 100}, {4, 50}, {5, 40}, {3, 66}}) {
-            CarriedWorks x = wide(size[0], size[1]);
             int all = size[0] * size[1];
-            c.due("WAYS", x.ways(0), all);
-            for (int w = 0; w < all; w++) {
-                c.due("one INPUT", x.way(w, 0, 0), 1);
-                c.due("its least", x.way(w, 1, 0), w);
-                c.due("STOPS", x.way(w, 2, 0), w < size[1] ? 0 : 3);
+            for (int what = 0; what < 3; what++) {
+                CarriedWorks x = wide(size[0], size[1]);
+                c.due("WAYS", x.ways(0), all);
+                for (int w = 0; w < all; w++) {
+                    int stop = w < size[1] ? 0 : 3;
+                    c.due("one INPUT, its least, STOPS: " + what, x.way(w, what, 0), what == 0 ? 1 : what == 1 ? w : stop);
+                }
+                c.due("no more", x.way(all, what, 0), -1);
             }
-            c.due("no more", x.way(all, 0, 0), -1);
         }
     }
 

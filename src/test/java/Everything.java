@@ -109,20 +109,41 @@ final class Everything {
         x.plan(1 << OLD | 1 << WAITING);
     }
 
-    /** Each is asked of an object of its own, as some change it. */
+    /** Each is asked of an object of its own, as some change it, and to stay below 512 calls. */
     static List<BiConsumer<CarriedWorks, List<Integer>>> probes() {
         List<BiConsumer<CarriedWorks, List<Integer>>> all = new ArrayList<>();
         all.add(Everything::told);
         all.add(Everything::foundWays);
-        all.add(Everything::textsOf);
         all.add(Everything::spansOf);
-        all.add(Everything::callsAndNeeds);
+        all.add(Everything::callsOf);
+        all.add(Everything::plansOf);
+        all.add(Everything::needsOf);
         all.add(Everything::cutOverOf);
         all.add(Everything::rowsOf);
-        all.add(Everything::slotsOf);
         all.add(Everything::tapeOf);
-        all.add(Everything::imagesOf);
+        for (int i = 0; i < 8; i++) {
+            int p = i;
+            all.add((x, to) -> textsOf(x, p, to));
+            all.add(behindRestore((x, to) -> textsOf(x, p, to)));
+        }
+        for (int i = 0; i < 3; i++) {
+            int slot = i;
+            all.add((x, to) -> slotsOf(x, slot, to));
+        }
+        all.add(behindRestore(Everything::told));
+        all.add(behindRestore(Everything::callsOf));
+        all.add(behindRestore(Everything::plansOf));
         return all;
+    }
+
+    /** What IMAGE 0 has, and that the others have nothing. */
+    private static BiConsumer<CarriedWorks, List<Integer>> behindRestore(BiConsumer<CarriedWorks, List<Integer>> probe) {
+        return (x, to) -> {
+            for (int k = 2; k >= 0; k--) {
+                to.add(x.restore(k));
+            }
+            probe.accept(x, to);
+        };
     }
 
     private static void told(CarriedWorks x, List<Integer> to) {
@@ -169,27 +190,25 @@ final class Everything {
         }
     }
 
-    private static void textsOf(CarriedWorks x, List<Integer> to) {
-        for (int p = 0; p < 8; p++) {
-            to.add(x.unlike(p));
-            to.add(x.parts(p, 0));
-            for (int input = 0; input < 7; input++) {
-                to.add(x.where(p, input));
-                to.add(x.run(p, input));
-                to.add(x.did());
-                to.add(x.field(7));
-                to.add(x.runNew(p, input));
-                to.add(x.did());
-                to.add(x.field(0));
-            }
-            for (int k = 0; k < 4; k++) {
-                to.add(x.casing(p, k, 0, 0, 0));
-                to.add(x.casing(p, k, 1, 0, 0));
-                for (int j = 0; j < 8; j++) {
-                    to.add(x.casing(p, k, 3, j, 0));
-                    to.add(x.casing(p, k, 4, j, 0));
-                    to.add(x.casing(p, k, 2, j, j));
-                }
+    private static void textsOf(CarriedWorks x, int p, List<Integer> to) {
+        to.add(x.unlike(p));
+        to.add(x.parts(p, 0));
+        for (int input = 0; input < 7; input++) {
+            to.add(x.where(p, input));
+            to.add(x.run(p, input));
+            to.add(x.did());
+            to.add(x.field(7));
+            to.add(x.runNew(p, input));
+            to.add(x.did());
+            to.add(x.field(0));
+        }
+        for (int k = 0; k < 4; k++) {
+            to.add(x.casing(p, k, 0, 0, 0));
+            to.add(x.casing(p, k, 1, 0, 0));
+            for (int j = 0; j < 8; j++) {
+                to.add(x.casing(p, k, 3, j, 0));
+                to.add(x.casing(p, k, 4, j, 0));
+                to.add(x.casing(p, k, 2, j, j));
             }
         }
     }
@@ -207,15 +226,21 @@ final class Everything {
         }
     }
 
-    private static void callsAndNeeds(CarriedWorks x, List<Integer> to) {
+    private static void callsOf(CarriedWorks x, List<Integer> to) {
         for (int p = 0; p < 8; p++) {
             for (int q = 0; q < 8; q++) {
                 to.add(x.calls(p, q, 1));
             }
         }
+    }
+
+    private static void plansOf(CarriedWorks x, List<Integer> to) {
         for (int bits = 0; bits < 256; bits++) {
             to.add(x.plan(bits));
         }
+    }
+
+    private static void needsOf(CarriedWorks x, List<Integer> to) {
         for (int p = 0; p < 8; p++) {
             for (int q = 0; q < 8; q++) {
                 to.add(x.needs(p, q));
@@ -246,14 +271,14 @@ final class Everything {
         }
     }
 
-    private static void slotsOf(CarriedWorks x, List<Integer> to) {
+    private static void slotsOf(CarriedWorks x, int slot, List<Integer> to) {
         to.add(x.write(3, 0, 0));
-        for (int slot = 0; slot < 3; slot++) {
-            for (int width = 0; width < 4; width++) {
-                x.sheet(3, width, 1);
-                for (int i = 0; i < 5; i++) {
-                    to.add(x.paste(slot, i, 3, 0, 1));
-                    to.add(x.night(WIDE, 3));
+        for (int width = 0; width < 4; width++) {
+            x.sheet(3, width, 1);
+            for (int i = 0; i < 5; i++) {
+                int pasted = x.paste(slot, i, 3, 0, 1);
+                to.add(pasted);
+                if (pasted == 0) {
                     numberOf(x, to);
                 }
             }
@@ -281,16 +306,5 @@ final class Everything {
         to.add(x.fault(1));
         to.add(x.ways(OLD));
         to.add(x.way(0, 4, 0));
-    }
-
-    private static void imagesOf(CarriedWorks x, List<Integer> to) {
-        for (int k = 2; k >= 0; k--) {
-            to.add(x.restore(k));
-        }
-        told(x, to);
-        for (int bits = 0; bits < 256; bits++) {
-            to.add(x.plan(bits));
-        }
-        textsOf(x, to);
     }
 }
