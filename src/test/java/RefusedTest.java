@@ -16,6 +16,8 @@ public final class RefusedTest {
     private static final Check c = new Check("refused");
 
     public static void main(String[] args) {
+        hasSomethingOfEverything();
+        changesAreSeen();
         theTape();
         texts();
         spans();
@@ -63,6 +65,55 @@ public final class RefusedTest {
     private static void dueBehind(Consumer<CarriedWorks> ahead, String call, int want, ToIntFunction<CarriedWorks> calls) {
         List<List<Integer>> then = tellsAll(ahead.andThen(x -> c.due(call, calls.applyAsInt(x), want)));
         c.holds("nothing happened by " + call, then.equals(tellsAll(ahead)));
+    }
+
+    private static void hasSomethingOfEverything() {
+        CarriedWorks x = Everything.made();
+        int[] states = {0, 1, 2, 3, 4, 1, 0, 1};
+        for (int p = 0; p < 8; p++) {
+            c.due("state of " + p, x.state(p), states[p]);
+        }
+        int[] counts = {19, 3 + 4 + 1, 1, 1, 3, 8, 6, 1, 1, 3, 1};
+        for (int what = 0; what <= 10; what++) {
+            c.due("count " + what, x.count(what), counts[what]);
+        }
+    }
+
+    private static void seen(String call, ToIntFunction<CarriedWorks> calls) {
+        List<List<Integer>> then = tellsAll(x -> c.holds(call + " is not refused", calls.applyAsInt(x) >= 0));
+        c.holds("later calls tell of " + call, !then.equals(UNTOUCHED));
+    }
+
+    /** What the calls below would do if they were not refused is seen by what is asked behind them. */
+    private static void changesAreSeen() {
+        seen("feed", x -> x.feed(0, 0, 0, 0, 0));
+        seen("end", x -> x.end(7));
+        seen("old", x -> x.end(7) + x.old(Everything.OLD));
+        seen("renew", x -> x.end(0) + x.renew(Everything.OLD));
+        seen("span", x -> x.span(Everything.OLD, 1, 0, 3));
+        seen("span, BESIDE", x -> x.span(Everything.BESIDE, 1, 4, 4));
+        seen("run", x -> x.run(Everything.OLD, 5));
+        seen("runNew", x -> x.runNew(Everything.BESIDE, 0));
+        seen("ways", x -> x.ways(Everything.BESIDE));
+        seen("make", x -> x.make(Everything.OLD));
+        seen("wish", x -> x.wish(Everything.BESIDE, 0, 7, 1));
+        seen("night", x -> x.night(Everything.BESIDE, 0));
+        seen("a night of none", x -> x.night(Everything.BESIDE, 2));
+        seen("judge", x -> x.judge(2, 1));
+        seen("calls", x -> 1 + x.calls(Everything.NO_OLD_TEXT, Everything.OLD, 0));
+        seen("needs", x -> x.needs(Everything.OLD, Everything.BACK));
+        seen("live", x -> x.live(Everything.BACK));
+        seen("plan", x -> x.plan(1));
+        seen("form", x -> x.form(3, -2));
+        seen("put", x -> x.put(2, 0, 5));
+        seen("lead", x -> x.lead(2));
+        seen("keep", x -> x.keep(1));
+        seen("keep over another", x -> x.keep(0));
+        seen("restore", x -> x.restore(0));
+        seen("sheet", x -> x.sheet(3, 0, 0));
+        seen("sheet in place of another", x -> x.sheet(2, 1, 0));
+        seen("write", x -> x.write(1, 2, 6));
+        seen("paste", x -> x.paste(0, 0, 0, 3, 1));
     }
 
     /** Promises 2 and 3. */
