@@ -69,8 +69,10 @@ public final class CarriedWorks {
     private static final int HEAP_FIRST = 6;
     private static final int HEAP_CELLS = 7;
 
+    // Calls make nothing: all rows are made here, as long as the document's limits let them become.
     private final Works works = new Works();
     private final Works[] images = new Works[IMAGES];
+    private final boolean[] kept = new boolean[IMAGES];
     private final Reader reader = new Reader();
     private final Machine oldSide = new Machine();
     private final Machine newSide = new Machine();
@@ -78,10 +80,14 @@ public final class CarriedWorks {
     private final Slots slots = new Slots();
     private final int[] lastFields = new int[FIELDS];
     private int lastDid = NONE;
-    private WayTable found;
-    private WayTable spare;
+    private WayTable found = new WayTable();
+    // What is being found stays apart from what was found, which a refused call must leave.
+    private WayTable spare = new WayTable();
 
     public CarriedWorks() {
+        for (int k = 0; k < IMAGES; k++) {
+            images[k] = new Works();
+        }
     }
 
     public int feed(int a, int b, int c, int d, int e) {
@@ -183,29 +189,29 @@ public final class CarriedWorks {
         if (p == null || !p.oldText.there) {
             return NO_SUCH;
         }
-        WayTable table = spareTable();
-        if (!table.collect(p, oldSide, null)) {
+        if (!spare.collect(p, oldSide, null)) {
             return REFUSED;
         }
-        spare = found;
-        found = table;
-        return table.size;
+        WayTable before = found;
+        found = spare;
+        spare = before;
+        return found.size;
     }
 
     public int way(int w, int what, int i) {
-        return found == null ? NONE : found.tell(w, what, i);
+        return found.tell(w, what, i);
     }
 
     public int rule(int w, int field, int i) {
-        return found == null ? NOTHING : found.coefficient(w, field, i);
+        return found.coefficient(w, field, i);
     }
 
     public int dead() {
-        return found == null ? 0 : found.undone;
+        return found.undone;
     }
 
     public int kinds() {
-        return found == null ? 0 : found.distinct();
+        return found.distinct();
     }
 
     public int make(int program) {
@@ -213,8 +219,8 @@ public final class CarriedWorks {
         if (p == null || !p.oldText.there || !p.mayChange()) {
             return NO_SUCH;
         }
-        reader.newText.clear();
-        if (!spareTable().collect(p, oldSide, reader.newText)) {
+        reader.newText.beginMade(p.spannedBits());
+        if (!spare.collect(p, oldSide, reader.newText)) {
             return REFUSED;
         }
         takeNewText(p);
@@ -452,10 +458,8 @@ public final class CarriedWorks {
         if (k < 0 || k >= IMAGES) {
             return NO_SUCH;
         }
-        if (images[k] == null) {
-            images[k] = new Works();
-        }
         images[k].copyFrom(works);
+        kept[k] = true;
         return 0;
     }
 
@@ -463,7 +467,7 @@ public final class CarriedWorks {
         if (k < 0 || k >= IMAGES) {
             return NO_SUCH;
         }
-        if (images[k] == null) {
+        if (!kept[k]) {
             return EMPTY;
         }
         works.copyFrom(images[k]);
@@ -553,14 +557,6 @@ public final class CarriedWorks {
         lastDid = did;
     }
 
-    /** What is being found stays apart from what was found, which a refused call must leave. */
-    private WayTable spareTable() {
-        if (spare == null) {
-            spare = new WayTable();
-        }
-        return spare;
-    }
-
     private int unlikeBits(Program p, int input) {
         oldSide.goOld(p, input);
         newSide.goNew(p, input);
@@ -591,6 +587,7 @@ public final class CarriedWorks {
     private static final class Reader {
         private static final int TAPE_MOST = 600;
         private static final int LINE_NUMBER_MOST = 999;
+        private static final int WORD_MOST = 4;
 
         private static final int END = 0;
         private static final int BAD = 1;
@@ -723,25 +720,25 @@ public final class CarriedWorks {
             }
         }
 
+        /** Letters are put together to one number, a byte each, as a text would be an object. */
         private int wordKind(int from, int past) {
-            switch (past - from) {
-                case 1: return tape[from] < 'a' + FIELDS ? FIELD : OTHER_WORD;
-                case 2: return isWord("if", from) ? IF : isWord("go", from) ? GO : OTHER_WORD;
-                case 3: return isWord("set", from) ? SET : isWord("and", from) ? AND : OTHER_WORD;
-                case 4: return isWord("stop", from) ? STOP : isWord("when", from) ? WHEN
-                        : isWord("else", from) ? ELSE : OTHER_WORD;
-                default: return OTHER_WORD;
+            if (past - from > WORD_MOST) {
+                return OTHER_WORD;
             }
-        }
-
-        /** For a word as long as the one that begins there. */
-        private boolean isWord(String word, int from) {
-            for (int i = 0; i < word.length(); i++) {
-                if (tape[from + i] != word.charAt(i)) {
-                    return false;
-                }
+            int word = 0;
+            for (int i = from; i < past; i++) {
+                word = word << 8 | tape[i];
             }
-            return true;
+            switch (word) {
+                case 'i' << 8 | 'f': return IF;
+                case 'g' << 8 | 'o': return GO;
+                case 's' << 16 | 'e' << 8 | 't': return SET;
+                case 'a' << 16 | 'n' << 8 | 'd': return AND;
+                case 's' << 24 | 't' << 16 | 'o' << 8 | 'p': return STOP;
+                case 'w' << 24 | 'h' << 16 | 'e' << 8 | 'n': return WHEN;
+                case 'e' << 24 | 'l' << 16 | 's' << 8 | 'e': return ELSE;
+                default: return word < 'a' + FIELDS ? FIELD : OTHER_WORD;
+            }
         }
 
         /** A number above all bounds stays just above them, that it can't go round. */
@@ -885,7 +882,7 @@ public final class CarriedWorks {
             if (limit == NONE) {
                 return false;
             }
-            newText.beginTest(op, limit, true);
+            newText.beginTest(op, limit);
             newText.sums.add(sum, 0, FIELDS, ALL_FIELDS, sum[FIELDS]);
             return true;
         }
@@ -967,47 +964,53 @@ public final class CarriedWorks {
      * bits each; what stands alone; how often each of these FIELDS.
      */
     private static final class Sums {
-        private int[] cells = new int[16];
+        private static final int HEAD = 2;
+
+        private final int[] cells;
         private int used;
+
+        /** For as many cells as its SUMS can ever have. */
+        Sums(int most) {
+            cells = new int[most];
+        }
 
         void clear() {
             used = 0;
         }
 
         void copyFrom(Sums other) {
-            if (cells.length < other.used) {
-                cells = new int[other.cells.length];
-            }
-            System.arraycopy(other.cells, 0, cells, 0, other.used);
-            used = other.used;
+            used = Math.min(other.used, cells.length);
+            System.arraycopy(other.cells, 0, cells, 0, used);
         }
 
+        /** There is always room, as LINES, CASES and TERMS are counted ahead of it. */
         void addCell(int cell) {
-            if (used >= cells.length) {
-                cells = Arrays.copyOf(cells, cells.length * 2);
+            if (used < cells.length) {
+                cells[used] = cell;
+                used++;
             }
-            cells[used] = cell;
-            used++;
         }
 
         void add(int[] times, int from, int n, int[] letters, int alone) {
-            int at = used;
             int shape = 0;
             int terms = 0;
-            addCell(0);
-            addCell(alone);
             for (int i = 0; i < n; i++) {
                 if (times[from + i] != 0) {
-                    addCell(times[from + i]);
                     shape |= letters[i] << 4 + 3 * terms;
                     terms++;
                 }
             }
-            cells[at] = shape | terms;
+            addCell(shape | terms);
+            addCell(alone);
+            for (int i = 0; i < n; i++) {
+                if (times[from + i] != 0) {
+                    addCell(times[from + i]);
+                }
+            }
         }
 
         int behind(int at) {
-            return at + 2 + (cells[at] & 15);
+            return at + HEAD + (cells[at] & 15);
         }
 
         int valueAt(int at, int[] fields) {
@@ -1015,7 +1018,7 @@ public final class CarriedWorks {
             int letters = cells[at] >> 4;
             int value = cells[at + 1];
             for (int t = 0; t < terms; t++) {
-                value += cells[at + 2 + t] * fields[letters & 7];
+                value += cells[at + HEAD + t] * fields[letters & 7];
                 letters >>= 3;
             }
             return value;
@@ -1030,7 +1033,7 @@ public final class CarriedWorks {
             for (int t = 0; t < terms; t++) {
                 int from = (letters & 7) * WayTable.STRETCH;
                 for (int i = 0; i < WayTable.STRETCH; i++) {
-                    into[i] += cells[at + 2 + t] * made[from + i];
+                    into[i] += cells[at + HEAD + t] * made[from + i];
                 }
                 letters >>= 3;
             }
@@ -1041,7 +1044,7 @@ public final class CarriedWorks {
             int letters = cells[at] >> 4;
             for (int t = 0; t < terms; t++) {
                 if ((letters & 7) == letter) {
-                    return cells[at + 2 + t];
+                    return cells[at + HEAD + t];
                 }
                 letters >>= 3;
             }
@@ -1054,6 +1057,8 @@ public final class CarriedWorks {
     }
 
     private static final class OldText {
+        private static final int CELLS_MOST = LINES_MOST * (Sums.HEAD + TERMS_MOST);
+
         private boolean there;
         private int size;
         private final int[] numbers = new int[LINES_MOST];
@@ -1063,7 +1068,7 @@ public final class CarriedWorks {
         private final int[] limits = new int[LINES_MOST];
         private final int[] targets = new int[LINES_MOST];
         private final int[] sumPlaces = new int[LINES_MOST];
-        private final Sums sums = new Sums();
+        private final Sums sums = new Sums(CELLS_MOST);
 
         void clear() {
             size = 0;
@@ -1102,31 +1107,52 @@ public final class CarriedWorks {
         }
     }
 
-    /** CASES: TESTS are a word of OP and number and a SUM, PUTS a FIELD and a SUM. */
+    /**
+     * CASES. Of those that were told TESTS are a word of OP and number and a SUM, PUTS a FIELD and a
+     * SUM. Those that were made can have a hundred TESTS each, too many to have room for all: as their
+     * TESTS are the ifs of one WAY through the OLD text, which stays as it is from then on, their turns
+     * alone are kept, a bit for each if.
+     */
     private static final class NewText {
         private static final int LIMIT_BITS = 14;
-        private static final int NOT_SO = 1 << 16;
+        private static final int TURN_WORDS = (ACTS_MOST + 31) / 32;
+        private static final int TOLD_CELLS = CASES_TOLD_MOST * (TESTS_MOST + FIELDS) * (1 + Sums.HEAD + TERMS_MOST);
+        private static final int MADE_CELLS = CASES_MADE_MOST * FIELDS * (1 + Sums.HEAD + SPANNED_MOST);
 
         private boolean there;
+        private boolean made;
+        private int madeOf;
         private int size;
         private final int[] testCounts = new int[CASES_MADE_MOST];
         private final int[] firstTests = new int[CASES_MADE_MOST];
         private final int[] putCounts = new int[CASES_MADE_MOST];
         private final int[] firstPuts = new int[CASES_MADE_MOST];
-        private final Sums sums = new Sums();
+        private final int[] turns = new int[CASES_MADE_MOST * TURN_WORDS];
+        private final Sums sums = new Sums(MADE_CELLS > TOLD_CELLS ? MADE_CELLS : TOLD_CELLS);
 
         void clear() {
+            made = false;
             size = 0;
             sums.clear();
         }
 
+        /** CASES are made of the FIELDS in bits, those with a SPAN. */
+        void beginMade(int bits) {
+            clear();
+            made = true;
+            madeOf = bits;
+        }
+
         void copyFrom(NewText other) {
             there = other.there;
+            made = other.made;
+            madeOf = other.madeOf;
             size = other.size;
             System.arraycopy(other.testCounts, 0, testCounts, 0, size);
             System.arraycopy(other.firstTests, 0, firstTests, 0, size);
             System.arraycopy(other.putCounts, 0, putCounts, 0, size);
             System.arraycopy(other.firstPuts, 0, firstPuts, 0, size);
+            System.arraycopy(other.turns, 0, turns, 0, size * TURN_WORDS);
             sums.copyFrom(other.sums);
         }
 
@@ -1141,9 +1167,14 @@ public final class CarriedWorks {
             size++;
         }
 
-        void beginTest(int op, int limit, boolean so) {
+        void beginTest(int op, int limit) {
             testCounts[size - 1]++;
-            sums.addCell(limit | op << LIMIT_BITS | (so ? 0 : NOT_SO));
+            sums.addCell(limit | op << LIMIT_BITS);
+        }
+
+        void addTurns(int[] held, int ifs) {
+            testCounts[size - 1] = ifs;
+            System.arraycopy(held, 0, turns, (size - 1) * TURN_WORDS, TURN_WORDS);
         }
 
         void beginPuts() {
@@ -1155,18 +1186,55 @@ public final class CarriedWorks {
             sums.addCell(letter);
         }
 
-        boolean countsFor(int c, int[] fields) {
+        /** The first of the CASES told that counts for these FIELDS. */
+        int caseFor(int[] fields) {
+            for (int c = 0; c < size; c++) {
+                if (countsFor(c, fields)) {
+                    return c;
+                }
+            }
+            return NONE;
+        }
+
+        private boolean countsFor(int c, int[] fields) {
             int at = firstTests[c];
             for (int test = 0; test < testCounts[c]; test++) {
                 int word = sums.cells[at];
                 int value = sums.valueAt(at + 1, fields);
-                boolean so = holds(value, word >> LIMIT_BITS & 3, word & (1 << LIMIT_BITS) - 1);
-                if (so == ((word & NOT_SO) != 0)) {
+                if (!holds(value, word >> LIMIT_BITS, word & (1 << LIMIT_BITS) - 1)) {
                     return false;
                 }
                 at = sums.behind(at + 1);
             }
             return true;
+        }
+
+        /** The one of the CASES made whose ifs all turn so; who turns as it does comes to no other ifs. */
+        int caseWith(int[] held) {
+            for (int c = 0; c < size; c++) {
+                if (turnsSo(c, held)) {
+                    return c;
+                }
+            }
+            return NONE;
+        }
+
+        private boolean turnsSo(int c, int[] held) {
+            for (int i = 0; i < TURN_WORDS; i++) {
+                if (turns[c * TURN_WORDS + i] != held[i]) {
+                    return false;
+                }
+            }
+            return true;
+        }
+
+        /** What CASES were made of has no other FIELDS: those had no SPAN then and were 0. */
+        void leaveOthersOut(int[] fields) {
+            for (int f = 0; f < FIELDS; f++) {
+                if ((madeOf >> f & 1) == 0) {
+                    fields[f] = 0;
+                }
+            }
         }
 
         /** Where PUT j of a CASE stands, NONE: there is none such. */
@@ -1300,6 +1368,14 @@ public final class CarriedWorks {
             spanned++;
         }
 
+        int spannedBits() {
+            int bits = 0;
+            for (int i = 0; i < spanned; i++) {
+                bits |= 1 << letters[i];
+            }
+            return bits;
+        }
+
         void beginFields(int input, int[] fields) {
             Arrays.fill(fields, 0);
             int left = input;
@@ -1316,16 +1392,23 @@ public final class CarriedWorks {
         private final int[] fields = new int[FIELDS];
         private final int[] values = new int[FIELDS];
         private final byte[] trace = new byte[ACTS_MOST];
-        private final boolean[] held = new boolean[ACTS_MOST];
+        private final int[] turns = new int[NewText.TURN_WORDS];
+        private int ifs;
         private int acts;
         private int stop;
         private int chosen;
         private int mark;
 
         void goOld(Program p, int input) {
-            OldText text = p.oldText;
             p.beginFields(input, fields);
+            goThrough(p.oldText, true);
+        }
+
+        /** Unbounded, a SUM beyond -9999 .. 9999 is set, too. */
+        private void goThrough(OldText text, boolean bounded) {
             acts = 0;
+            ifs = 0;
+            Arrays.fill(turns, 0);
             mark = 0;
             stop = STILL_RUNS;
             int line = 0;
@@ -1333,7 +1416,7 @@ public final class CarriedWorks {
                 trace[acts] = (byte) line;
                 mark = mark * 31 + line + 1;
                 acts++;
-                line = doLine(text, line);
+                line = doLine(text, line, bounded);
             }
             if (stop == STILL_RUNS) {
                 stop = line < text.size ? STOP_ACTS : STOP_WELL;
@@ -1341,14 +1424,21 @@ public final class CarriedWorks {
         }
 
         /** The LINE to go on with. */
-        private int doLine(OldText text, int line) {
+        private int doLine(OldText text, int line, boolean bounded) {
+            int letter = text.fields[line];
             switch (text.acts[line]) {
                 case ACT_SET:
-                    doSet(text, line);
+                    int value = text.sums.valueAt(text.sumPlaces[line], fields);
+                    if (bounded && !isInRange(value)) {
+                        stop = STOP_RANGE;
+                    } else {
+                        fields[letter] = value;
+                    }
                     return line + 1;
                 case ACT_IF:
-                    held[acts - 1] = holds(fields[text.fields[line]], text.ops[line], text.limits[line]);
-                    return held[acts - 1] ? jump(text.targets[line]) : line + 1;
+                    boolean held = holds(fields[letter], text.ops[line], text.limits[line]);
+                    addTurn(held);
+                    return held ? jump(text.targets[line]) : line + 1;
                 case ACT_GO:
                     return jump(text.targets[line]);
                 default:
@@ -1357,13 +1447,11 @@ public final class CarriedWorks {
             }
         }
 
-        private void doSet(OldText text, int line) {
-            int value = text.sums.valueAt(text.sumPlaces[line], fields);
-            if (isInRange(value)) {
-                fields[text.fields[line]] = value;
-            } else {
-                stop = STOP_RANGE;
+        private void addTurn(boolean held) {
+            if (held) {
+                turns[ifs / 32] |= 1 << ifs % 32;
             }
+            ifs++;
         }
 
         private int jump(int target) {
@@ -1377,13 +1465,17 @@ public final class CarriedWorks {
         void goNew(Program p, int input) {
             NewText text = p.newText;
             p.beginFields(input, fields);
+            if (text.made) {
+                text.leaveOthersOut(fields);
+                goThrough(p.oldText, false);
+                chosen = text.caseWith(turns);
+                p.beginFields(input, fields);
+            } else {
+                chosen = text.caseFor(fields);
+            }
             stop = STOP_NO_CASE;
-            chosen = NONE;
-            for (int c = 0; c < text.size && chosen == NONE; c++) {
-                if (text.countsFor(c, fields)) {
-                    chosen = c;
-                    doPuts(text, c);
-                }
+            if (chosen != NONE) {
+                doPuts(text, chosen);
             }
         }
 
@@ -1478,11 +1570,10 @@ public final class CarriedWorks {
             marks[w] = machine.mark;
             System.arraycopy(machine.trace, 0, lines, w * ACTS_MOST, machine.acts);
             size++;
+            workOut(p, machine);
             if (makes) {
                 cases.beginCase();
-            }
-            workOut(p, machine, makes ? cases : null);
-            if (makes) {
+                cases.addTurns(machine.turns, machine.ifs);
                 addPuts(p, cases);
             }
             System.arraycopy(made, 0, coefficients, w * WAY_CELLS, WAY_CELLS);
@@ -1490,7 +1581,7 @@ public final class CarriedWorks {
         }
 
         /** Goes the machine's LINES once more by letters. */
-        private void workOut(Program p, Machine machine, NewText cases) {
+        private void workOut(Program p, Machine machine) {
             Arrays.fill(made, 0);
             for (int i = 0; i < p.spanned; i++) {
                 made[p.letters[i] * STRETCH + i] = 1;
@@ -1499,13 +1590,9 @@ public final class CarriedWorks {
             for (int i = 0; i < machine.acts; i++) {
                 int line = machine.trace[i];
                 undone &= ~(1 << line);
-                int act = p.oldText.acts[line];
-                if (act == ACT_SET && i < done) {
+                if (p.oldText.acts[line] == ACT_SET && i < done) {
                     p.oldText.sums.valueByLetters(p.oldText.sumPlaces[line], made, value);
                     System.arraycopy(value, 0, made, p.oldText.fields[line] * STRETCH, STRETCH);
-                } else if (act == ACT_IF && cases != null) {
-                    cases.beginTest(p.oldText.ops[line], p.oldText.limits[line], machine.held[i]);
-                    addMade(p, p.oldText.fields[line], cases);
                 }
             }
         }
@@ -1513,14 +1600,10 @@ public final class CarriedWorks {
         private void addPuts(Program p, NewText cases) {
             cases.beginPuts();
             for (int f = 0; f < FIELDS; f++) {
+                int from = f * STRETCH;
                 cases.beginPut(f);
-                addMade(p, f, cases);
+                cases.sums.add(made, from, p.spanned, p.letters, made[from + SPANNED_MOST]);
             }
-        }
-
-        private void addMade(Program p, int letter, NewText cases) {
-            int from = letter * STRETCH;
-            cases.sums.add(made, from, p.spanned, p.letters, made[from + SPANNED_MOST]);
         }
 
         int tell(int w, int what, int i) {

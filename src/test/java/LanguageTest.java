@@ -7,8 +7,10 @@ import java.nio.file.Files;
 import java.nio.file.Path;
 import java.util.ArrayList;
 import java.util.Arrays;
+import java.util.HashMap;
 import java.util.HashSet;
 import java.util.List;
+import java.util.Map;
 import java.util.Set;
 import java.util.TreeSet;
 import java.util.regex.Matcher;
@@ -27,6 +29,7 @@ public final class LanguageTest {
     public static void main(String[] args) throws IOException {
         face();
         classes();
+        depth();
         String source = Files.readString(Path.of("src/main/java/CarriedWorks.java"));
         words(source);
         library(source);
@@ -104,6 +107,31 @@ public final class LanguageTest {
                 c.due(type + " has no classes", type.getDeclaredClasses().length, 0);
             }
         }
+    }
+
+    /** The longest chain of calls, the public method its first; a chain that comes back to itself never ends. */
+    private static void depth() {
+        Map<String, List<String>> called = new HashMap<>();
+        for (Class<?> type : allClasses()) {
+            called.putAll(new ClassCode(type).called());
+        }
+        int deepest = 0;
+        for (String method : called.keySet()) {
+            deepest = Math.max(deepest, depthOf(method, called, 0));
+        }
+        c.holds("calls go eight deep at most: " + deepest, deepest <= 8);
+        c.holds("calls were seen: " + deepest, deepest > 3);
+    }
+
+    private static int depthOf(String method, Map<String, List<String>> called, int above) {
+        int deepest = 0;
+        if (above > 20) {
+            return above;
+        }
+        for (String other : called.getOrDefault(method, List.of())) {
+            deepest = Math.max(deepest, depthOf(other, called, above + 1));
+        }
+        return deepest + 1;
     }
 
     private static String bare(String source) {
